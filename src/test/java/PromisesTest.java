@@ -21,6 +21,7 @@ public final class PromisesTest {
         digits();
         least();
         refusalsChangeNothing();
+        allCallsOfAnObject();
         Due.end();
     }
 
@@ -153,6 +154,7 @@ public final class PromisesTest {
         Due.is("best(2^62, 61)", x.best(MOST, 61), 3);
         Due.is("best(2^62, 62)", x.best(MOST, 62), 2);
         Due.is("best(5, 0)", x.best(5, 0), OUTSIDE);
+        Due.is("best(1, 0)", x.best(1, 0), OUTSIDE);
         Due.is("best(5, -1)", x.best(5, -1), OUTSIDE);
         Due.is("best(5, 63)", x.best(5, 63), OUTSIDE);
         Due.is("best(0, 1)", x.best(0, 1), OUTSIDE);
@@ -351,5 +353,25 @@ public final class PromisesTest {
         Due.is("trays()", x.trays(), 5);
         Due.is("order(0)", x.order(0), 2);
         Due.is("height(2, 1)", x.height(2, 1), 1);
+    }
+
+    /** An object's 512 calls, all but a few of one kind, so that each brings something more to be kept. */
+    private static void allCallsOfAnObject() {
+        PassSearch x = new PassSearch(65536);
+        Due.passes(x, 65536);
+        for (int k = 0; k < 508; k++) {
+            Due.is("volume " + k, x.volume(65535 - 128 * k, 7), 7 * (k + 1));
+        }
+        Due.is("trays() of 508 bins", x.trays(), 508);
+        Due.is("order(0)", x.order(0), 7 * 507);
+        Due.is("sort(3, 0)", x.sort(3, 0), 7 * 507 + 3);
+        PassSearch y = new PassSearch(65536);
+        for (int bin = 0; bin < 508; bin++) {
+            Due.is("height of bin " + bin, y.height(bin, bin + 1), 1000);
+        }
+        Due.passes(y, 508);
+        y.volume(4, 11);
+        Due.is("trays() of height 5", y.trays(), 3);
+        Due.is("height(507, 1)", y.height(507, 1), 508);
     }
 }
