@@ -11,6 +11,7 @@ public final class ModelTest {
     private final PlainModel model;
     private final int bins;
     private final String name;
+    private int calls;
 
     private ModelTest(int run) {
         random = new Random(run);
@@ -21,21 +22,23 @@ public final class ModelTest {
     }
 
     public static void main(String[] args) {
-        for (int run = 0; run < 36 * BINS.length; run++) {
+        for (int run = 0; run < 72 * BINS.length; run++) {
             ModelTest test = new ModelTest(run);
             // some runs of all 512 calls, many short ones
-            int calls = run / BINS.length % 6 == 0 ? 512 : 60;
-            for (int call = 0; call < calls; call++) {
-                test.step();
+            int most = run / BINS.length % 6 == 0 ? 512 : 120;
+            while (test.calls < most) {
+                test.step(most);
             }
         }
         Due.end();
     }
 
-    private void step() {
+    private void step(int most) {
+        calls++;
         int kind = random.nextInt(40);
-        if (kind < 2) {
-            passes();
+        // without a plan most calls are refused, so one comes soon
+        if (kind < 1 || model.pointCount() == 0 && random.nextInt(8) == 0) {
+            passes(most);
         } else if (kind < 5) {
             digit();
         } else if (kind < 7) {
@@ -59,10 +62,12 @@ public final class ModelTest {
         }
     }
 
-    private void passes() {
+    private void passes(int most) {
         long points = points();
-        Due.is(name + "passes(" + points + ")", Due.passes(search, points), model.passes(points));
-        for (int i = 0; i < 63; i++) {
+        long passes = model.passes(points);
+        Due.is(name + "passes(" + points + ")", Due.passes(search, points), passes);
+        for (int i = 0; i <= passes && calls < most; i++) {
+            calls++;
             Due.is(name + "passes(" + points + "), digits(" + i + ")", Due.digits(search, i), model.digits(i));
         }
     }

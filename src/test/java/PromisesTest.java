@@ -1,4 +1,4 @@
-/** Each promise of the document, a method each: ordinary inputs, the edges it names, wrong inputs. */
+/** Each promise of the document, a method each: ordinary and wrong inputs; the EdgesTests go through the edges. */
 public final class PromisesTest {
     private static final int UNKNOWN = PassSearch.UNKNOWN;
     private static final int OUTSIDE = PassSearch.OUTSIDE;
